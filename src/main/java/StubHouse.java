@@ -286,21 +286,17 @@ public final class StubHouse {
     public int step(int n) {
         if (n < 1 || n > 500) return BAD;
         for (int i = 0; i < n; i++) {
-            stepOnce();
+            tree.time++;
+            if (lost) continue;
+            library.scanAll();
+            reader.wants = -1;
+            if (reader.act == 0) reader.choose(writer.mounted);
+            if (reader.spend()) reader.finish();
+            if (writer.act == 0) writer.choose();
+            if (writer.spend()) writer.finish();
+            migrator.work();
         }
         return 0;
-    }
-
-    private void stepOnce() {
-        tree.time++;
-        if (lost) return;
-        library.scanAll();
-        reader.wants = -1;
-        if (reader.act == 0) reader.choose(writer.mounted);
-        reader.spend();
-        if (writer.act == 0) writer.choose();
-        writer.spend();
-        migrator.work();
     }
 
     public int reclaim(int tape) {
@@ -708,7 +704,7 @@ public final class StubHouse {
             for (int b = 0; b < ALL_BLOCKS && heldCount > 0; b++) {
                 if (state[b] == IS_HELD) {
                     state[b] = IS_FREE;
-                    free[storeOf(b)]++;
+                    free[b < FAST_BLOCKS ? FAST : SLOW]++;
                     heldCount--;
                 }
             }
@@ -1102,7 +1098,7 @@ public final class StubHouse {
         }
 
         int depthAt(int place) {
-            return byteAt(place + 14);
+            return bytes[place + 14] & 255;
         }
 
         int sizeAt(int place) {
@@ -1148,7 +1144,7 @@ public final class StubHouse {
             while (place < length) {
                 if (isSegmentAt(place) && found < SEGMENTS) {
                     note(place);
-                    place += wholeLength(place);
+                    place += Math.max(1, wholeLength(place));
                 } else {
                     place++;
                 }
@@ -1355,7 +1351,8 @@ public final class StubHouse {
         private int viewPlace(int id) {
             int low = 0;
             int high = viewCount;
-            while (low < high) {
+            // The way is halved each time, so 32 times are more than enough.
+            for (int i = 0; i < 32 && low < high; i++) {
                 int middle = (low + high) >>> 1;
                 if (viewId[middle] < id) low = middle + 1;
                 else high = middle;
@@ -1367,14 +1364,14 @@ public final class StubHouse {
             return tapes[viewTape[v]].stamps[viewIndex[v]];
         }
 
-        private int viewSpot(int v) {
+        private int placeInView(int v) {
             return tapes[viewTape[v]].places[viewIndex[v]];
         }
 
         private void dropDeletes() {
             int kept = 0;
             for (int v = 0; v < viewCount; v++) {
-                if (tapes[viewTape[v]].sortAt(viewSpot(v)) == FILE_SORT) {
+                if (tapes[viewTape[v]].sortAt(placeInView(v)) == FILE_SORT) {
                     keepInView(v, kept);
                     kept++;
                 }
@@ -1439,8 +1436,8 @@ public final class StubHouse {
         private boolean doPathsClash(int v, int w) {
             Tape one = tapes[viewTape[v]];
             Tape other = tapes[viewTape[w]];
-            int here = viewSpot(v);
-            int there = viewSpot(w);
+            int here = placeInView(v);
+            int there = placeInView(w);
             int shorter = Math.min(one.depthAt(here), other.depthAt(there));
             for (int i = 0; i < shorter; i++) {
                 if (one.titleAt(here, i) != other.titleAt(there, i)) return false;
@@ -1460,7 +1457,7 @@ public final class StubHouse {
 
         private boolean restoreFile(int v) {
             Tape tape = tapes[viewTape[v]];
-            int place = viewSpot(v);
+            int place = placeInView(v);
             int last = tape.depthAt(place) - 1;
             int over = 0;
             for (int i = 0; i < last && over >= 0; i++) {
@@ -1520,6 +1517,7 @@ public final class StubHouse {
         int left;
         private int goal;
 
+        /** What reading or writing does with the last of its steps. */
         abstract void finish();
 
         void beginMounting(int t) {
@@ -1542,16 +1540,17 @@ public final class StubHouse {
             goal = place;
         }
 
-        void spend() {
-            if (act == 0) return;
+        /** The act has a step less to go: whether it was the last one of reading or writing. */
+        boolean spend() {
+            if (act == 0) return false;
             left--;
-            if (left > 0) return;
+            if (left > 0) return false;
             int done = act;
             left = 0;
             act = 0;
             head = goal;
             if (done == UNMOUNTING) mounted = -1;
-            if (done == READING || done == WRITING) finish();
+            return done == READING || done == WRITING;
         }
 
         void takeOff() {
@@ -1606,7 +1605,9 @@ public final class StubHouse {
                 wanted = first;
             } else if (reclaimed >= 0 && parcelLength == 0) {
                 if (mounted == reclaimed) {
-                    goOnReclaiming();
+                    int i = library.nextLive(reclaimed, from);
+                    if (i >= 0) goOnReclaiming(i);
+                    else blankReclaimed();
                     return;
                 }
                 wanted = reclaimed;
@@ -1663,13 +1664,8 @@ public final class StubHouse {
             begin(READING, 1 + (size + 63) / 64, place + FILE_BYTES + size);
         }
 
-        private void goOnReclaiming() {
+        private void goOnReclaiming(int i) {
             Tape tape = library.tapes[reclaimed];
-            int i = library.nextLive(reclaimed, from);
-            if (i < 0) {
-                blankReclaimed();
-                return;
-            }
             int place = tape.places[i];
             if (head != place) {
                 beginWinding(place);

@@ -757,8 +757,8 @@ public final class StubHouse {
         private final int[] deleteOf = new int[MOST_RECORDS];
         int count;
         int bytes;
-        final int[] deleteId = new int[MOST_DELETES];
-        final boolean[] deleteKept = new boolean[MOST_DELETES];
+        private final int[] deleteId = new int[MOST_DELETES];
+        private final boolean[] deleteKept = new boolean[MOST_DELETES];
         int deletes;
 
         Log(Tree tree, Stores stores) {
@@ -827,6 +827,14 @@ public final class StubHouse {
                 deleteKept[i] = deleteKept[i + 1];
             }
             deletes--;
+        }
+
+        /** The least ID whose delete waits and may be written, or 0. */
+        int firstKeptDelete() {
+            for (int i = 0; i < deletes; i++) {
+                if (deleteKept[i]) return deleteId[i];
+            }
+            return 0;
         }
 
         /** Of a crash: leaves what the first n bytes tell, and keeps that: how many records they are. */
@@ -1053,7 +1061,8 @@ public final class StubHouse {
         final byte[] bytes = new byte[TAPE_BYTES];
         int length;
         int generation;
-        private boolean scanned;
+        private int scannedTo = LABEL_BYTES;
+        private boolean hasGaps;
         int found;
         final int[] places = new int[SEGMENTS];
         final int[] ids = new int[SEGMENTS];
@@ -1138,18 +1147,15 @@ public final class StubHouse {
         }
 
         void scan() {
-            if (scanned) return;
-            found = 0;
-            int place = LABEL_BYTES;
-            while (place < length) {
-                if (isSegmentAt(place) && found < SEGMENTS) {
-                    note(place);
-                    place += Math.max(1, wholeLength(place));
+            while (scannedTo < length) {
+                if (found < SEGMENTS && isSegmentAt(scannedTo)) {
+                    note(scannedTo);
+                    scannedTo += Math.max(1, wholeLength(scannedTo));
                 } else {
-                    place++;
+                    hasGaps = true;
+                    scannedTo++;
                 }
             }
-            scanned = true;
         }
 
         private void note(int place) {
@@ -1188,7 +1194,14 @@ public final class StubHouse {
         }
 
         void forgetScan() {
-            scanned = false;
+            scannedTo = LABEL_BYTES;
+            hasGaps = false;
+            found = 0;
+        }
+
+        /** What was found stays so when bytes come behind it; a gap could become a segment by them. */
+        void noteGrowth() {
+            if (hasGaps) forgetScan();
         }
     }
 
@@ -1215,20 +1228,17 @@ public final class StubHouse {
             return t >= 0 && t < TAPES && place >= 0 && place < tapes[t].length;
         }
 
-        private void noteChange(int t) {
-            tapes[t].forgetScan();
-            viewed = false;
-        }
-
         void turnBits(int t, int place, int mask) {
             tapes[t].bytes[place] ^= (byte) mask;
-            noteChange(t);
+            tapes[t].forgetScan();
+            viewed = false;
         }
 
         void wipe(int t) {
             tapes[t].length = 0;
             tapes[t].generation = (tapes[t].generation + 1) & 65535;
-            noteChange(t);
+            tapes[t].forgetScan();
+            viewed = false;
         }
 
         /** Writes behind the tape's end, with its label if it is blank: the place. */
@@ -1245,7 +1255,8 @@ public final class StubHouse {
             if (length > TAPE_BYTES - place) return place;
             System.arraycopy(source, 0, tape.bytes, place, length);
             tape.length += length;
-            noteChange(t);
+            tape.noteGrowth();
+            viewed = false;
             return place;
         }
 
@@ -1799,16 +1810,12 @@ public final class StubHouse {
         }
 
         private boolean goForDelete() {
+            int id = changes.log.firstKeptDelete();
+            if (id == 0) return false;
             int target = targetFor(DELETE_BYTES, -1);
             if (target < 0) return false;
-            Log log = changes.log;
-            for (int i = 0; i < log.deletes; i++) {
-                if (log.deleteKept[i]) {
-                    if (isAtEndOf(target)) beginDelete(log.deleteId[i]);
-                    return true;
-                }
-            }
-            return false;
+            if (isAtEndOf(target)) beginDelete(id);
+            return true;
         }
 
         private boolean goForParcel() {
@@ -1953,6 +1960,7 @@ public final class StubHouse {
         boolean fastMode;
         boolean slowMode;
         private final int[] ranked = new int[NODES];
+        private final int[] ranks = new int[NODES];
         private int rankedCount;
 
         Migrator(Changes changes, Writer writer) {
@@ -1988,22 +1996,21 @@ public final class StubHouse {
             return was && stores.used[store] > low[store];
         }
 
-        private int rankOf(Node f) {
-            return tree.time - f.touch + 4 * f.blocks();
-        }
-
         /** Puts the files with blocks in a store into a row, the greatest rank first. */
         private void rankFiles(int store) {
             rankedCount = 0;
             for (int n = 1; n < NODES; n++) {
                 Node f = tree.nodes[n];
                 if (f.kind != FILE || (store == FAST ? f.inFast : f.inSlow) == 0) continue;
+                int rank = tree.time - f.touch + 4 * f.blocks();
                 int at = rankedCount;
-                while (at > 0 && rankOf(tree.nodes[ranked[at - 1]]) < rankOf(f)) {
+                while (at > 0 && ranks[at - 1] < rank) {
                     ranked[at] = ranked[at - 1];
+                    ranks[at] = ranks[at - 1];
                     at--;
                 }
                 ranked[at] = n;
+                ranks[at] = rank;
                 rankedCount++;
             }
         }

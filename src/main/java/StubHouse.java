@@ -506,6 +506,7 @@ public final class StubHouse {
         }
 
         void takeCopy(int i) {
+            if (i < 0 || i >= copyCount) return;
             for (int k = i; k + 1 < copyCount; k++) {
                 copyTape[k] = copyTape[k + 1];
                 copyPlace[k] = copyPlace[k + 1];

@@ -126,6 +126,80 @@ public final class EdgesOfContents {
     }
   }
 
+  private static void cutToTheSame() {
+    House.sentence("T2: cut() to the same SIZE is none to less: nothing is written");
+    for (int size : new int[] {1, 31, 33, 40, 1023}) {
+      StubHouse x = new StubHouse();
+      House.file(x, "a", size, 5);
+      int last = (size - 1) / 32;
+      House.due("cut to " + size, x.cut(1, size), size);
+      House.due("the last BLOCK, HELD", x.block(1, last) * 10 + x.told(3), last * 10);
+      House.due("the last byte", x.read(1, size - 1), (size + 4) & 255);
+    }
+  }
+
+  private static void neighbours() {
+    House.sentence("T2: what is written to BLOCKS leaves those beside them as they are");
+    StubHouse x = new StubHouse();
+    for (int f = 1; f <= 8; f++) House.file(x, "f" + f, 32, 16 * f);
+    for (int f = 1; f <= 7; f += 2) x.remove(f);
+    x.sync();
+    int n = House.file(x, "q", 129, 100);
+    int[] want = {0, 2, 4, 6, 8};
+    for (int i = 0; i < 5; i++) House.due("BLOCK " + i, x.block(n, i), want[i]);
+    for (int f = 2; f <= 8; f += 2) for (int p = 0; p < 32; p++) House.due("byte " + p + " of " + f, x.read(f, p), (16 * f + p) & 255);
+    for (int p = 0; p < 129; p++) House.due("byte " + p, x.read(n, p), (100 + p) & 255);
+    House.sentence("T2: what stays of a BLOCK comes along, whichever BLOCK it is");
+    StubHouse y = new StubHouse();
+    House.file(y, "a", 32, 0);
+    House.file(y, "b", 32, 40);
+    y.remove(1);
+    y.sync();
+    House.write(y, 2, 31, 1, 7);
+    House.due("into BLOCK 0 of FAST", y.block(2, 0), 0);
+    for (int p = 0; p < 32; p++) House.due("byte " + p, y.read(2, p), p < 31 ? 40 + p : 7);
+    y.sync();
+    y.cut(2, 5);
+    House.due("into BLOCK 1 of FAST", y.block(2, 0), 1);
+    y.sync();
+    y.cut(2, 4);
+    House.due("into BLOCK 0 of FAST", y.block(2, 0), 0);
+    for (int p = 0; p < 5; p++) House.due("byte " + p, y.read(2, p), p < 4 ? 40 + p : BAD);
+  }
+
+  private static void thereAndBack() {
+    House.sentence("T5: RECALLED: it has the bytes that it had");
+    for (int size : new int[] {1, 31, 32, 33, 63, 64, 65, 1023, 1024}) {
+      StubHouse x = House.sinking();
+      House.file(x, "a", size, 77);
+      x.step(100);
+      House.calm(x);
+      House.due("SIZE " + size + ": a STUB", x.about(1, 10) * 10000 + x.about(1, 4), 30000 + size);
+      x.read(1, 0);
+      x.step(60);
+      for (int p = 0; p < size; p++) House.due("SIZE " + size + ", byte " + p, x.read(1, p), (77 + p) & 255);
+      House.due("none behind them", x.read(1, size), BAD);
+    }
+    House.sentence("T5: a SEGMENT has the bytes of BLOCKS of both stores");
+    StubHouse y = new StubHouse();
+    House.file(y, "z", 32, 0);
+    House.file(y, "a", 32, 50);
+    y.remove(1);
+    y.sync();
+    House.write(y, 2, 32, 32, 150);
+    House.due("BLOCKS 1 and 0 of FAST", y.block(2, 0) * 10 + y.block(2, 1), 10);
+    y.marks(0, 1, 1);
+    y.marks(1, 0, 0);
+    y.step(1);
+    House.due("one of both", y.block(2, 0) * 10 + y.block(2, 1), 10000);
+    y.step(40);
+    House.due("a STUB", y.about(2, 10), 3);
+    House.calm(y);
+    y.read(2, 0);
+    y.step(40);
+    for (int p = 0; p < 64; p++) House.due("byte " + p, y.read(2, p), p < 32 ? 50 + p : 150 + p - 32);
+  }
+
   private static void removedReleasedMoved() {
     House.sentence("T2: HELD when a file is removed, RELEASED, or a BLOCK is moved");
     StubHouse x = new StubHouse();
@@ -449,6 +523,7 @@ public final class EdgesOfContents {
       House.refused("cut(1, " + s + ") of none FREE", ROOM, House::full, x -> x.cut(1, s));
       House.due("with one of FAST", withFree(1, 0, 0).cut(2, s), s);
       House.due("with one of SLOW", withFree(0, 1, 0).cut(2, s), s);
+      House.due("with one of each", withFree(1, 1, 0).cut(2, s), s);
     }
     for (int s : new int[] {0, 32, 64, 992, 1024}) House.due("cut(1, " + s + ") wants none", House.full().cut(1, s), s);
     House.refused("HELD ones are not FREE", ROOM, () -> {
@@ -555,6 +630,9 @@ public final class EdgesOfContents {
     held();
     writtenElsewhere();
     cutParts();
+    cutToTheSame();
+    neighbours();
+    thereAndBack();
     removedReleasedMoved();
     withoutCopies();
     twoCopies();

@@ -251,6 +251,11 @@ public final class EdgesOfDrives {
     House.due("1 is not read there", y.about(1, 10) * 10 + y.about(2, 10), 32);
     House.sentence("T5 (c): a tape that is wanted and is not its own: unmounting, if it has one; else mounting");
     House.dueDrives("to tape 0", y, "-2,0,0,0 1,136,2,1", "-2,0,0,0 -2,0,0,0", "-2,0,0,0 0,0,1,2");
+    StubHouse v = onTwoTapes();
+    v.read(1, 0);
+    v.read(2, 0);
+    House.stepsUntil(v, z -> z.told(6) == 1);
+    House.dueDrives("from tape 0 to 1", v, "-2,0,0,0 0,73,2,1", "-2,0,0,0 -2,0,0,0", "-2,0,0,0 1,0,1,2");
     House.sentence("T5 (a): if its tape has some, that is gone on with, whatever waits first");
     StubHouse w = onTwoTapes();
     w.read(2, 0);
@@ -275,6 +280,16 @@ public final class EdgesOfDrives {
     House.dueDrives("wanted", x, "0,81,5,1 -2,0,0,0", "0,214,0,0 -2,0,0,0", "0,214,2,1 -2,0,0,0", "-2,0,0,0 -2,0,0,0", "1,0,1,2 0,0,1,2", "1,0,1,1 0,0,1,1",
         "1,0,0,0 0,0,0,0", "1,42,0,0 0,8,0,0");
     House.due("what waits first has its COPY and goes, c is on tape 1", x.about(2, 7) * 100 + x.copy(3, 0, 0) * 10 + x.told(7), 111);
+    House.sentence("T5 (c): it WANTS it in this STEP, not in later ones");
+    StubHouse w = House.stub();
+    w.read(1, 0);
+    House.stepsUntil(w, y -> y.about(1, 10) == 2);
+    w.remove(1);
+    w.step(2);
+    sink(w);
+    House.file(w, "q", 10, 0);
+    House.stepsUntil(w, y -> y.drive(0, 0) == 0);
+    House.dueDrives("the WRITER has it again", w, "0,0,1,1 -2,0,0,0", "0,0,0,0 -2,0,0,0", "0,81,0,0 -2,0,0,0", "0,124,0,0 -2,0,0,0");
     House.sentence("T5: A drive has a tape until it was unmounted");
     StubHouse z = House.stub();
     z.read(1, 0);
@@ -384,6 +399,19 @@ public final class EdgesOfDrives {
     z.sync();
     z.step(1);
     House.due("another file of that number: nothing is done", z.told(9) * 10 + z.about(1, 10), 1);
+  }
+
+  private static void noCopyAnyMore() {
+    House.sentence("T5: READ for a RECALL of a place that is a COPY of the file still (else nothing is done, it waits on)");
+    StubHouse x = stubs(40);
+    x.reclaim(0);
+    x.step(8);
+    x.read(1, 0);
+    House.dueDrives("read while its COPY is put elsewhere", x, "1,0,5,1 0,8,0,0", "1,81,0,0 0,8,4,1", "1,81,0,0 0,73,0,0");
+    House.due("it waits, a STUB, its COPY is on tape 1", x.told(6) * 100 + x.about(1, 10) * 10 + x.copy(1, 0, 0), 131);
+    House.dueDrives("tape 1 is wanted", x, "1,81,0,0 0,73,2,1", "1,81,0,0 -2,0,0,0", "1,81,2,1 -2,0,0,0", "-2,0,0,0 -2,0,0,0", "-2,0,0,0 1,0,1,2");
+    House.stepsUntil(x, y -> y.told(6) == 0);
+    House.due("RECALLED", x.about(1, 10) * 1000 + x.read(1, 39), 2000 + 39);
   }
 
   private static void passedOver() {
@@ -508,6 +536,17 @@ public final class EdgesOfDrives {
     House.stepsUntil(z, y -> y.told(7) == 0);
     z.step(30);
     House.due("it does not wait", z.about(3, 7) * 10 + z.tape(0, 2), 2);
+    StubHouse w = House.sinking();
+    House.file(w, "a", 1000, 0);
+    House.file(w, "b", 10, 0);
+    House.stepsUntil(w, y -> y.drive(0, 2) == 5);
+    House.due("both wait", w.told(7), 2);
+    w.remove(2);
+    House.file(w, "g", 10, 0);
+    w.step(3);
+    House.due("it comes to wait, too, while the other one has not gone", w.told(7) * 10 + w.drive(0, 2), 35);
+    House.stepsUntil(w, y -> y.about(2, 7) == 1);
+    House.due("it is written, the other one is not", w.tape(0, 2) * 10 + w.segment(0, 1, 2), 23);
   }
 
   private static void notedIf() {
@@ -582,6 +621,11 @@ public final class EdgesOfDrives {
     v.copies(2);
     v.step(60);
     House.due("tapes 0 and 1", v.copy(1, 0, 0) * 10 + v.copy(1, 1, 0), 1);
+    StubHouse u = House.sinkingFile();
+    u.copies(2);
+    u.step(8);
+    House.dueDrives("its own has one: unmounting, mounting the least that will do", u, "0,81,2,1 -2,0,0,0", "-2,0,0,0 -2,0,0,0", "1,0,1,2 -2,0,0,0", "1,0,1,1 -2,0,0,0",
+        "1,0,0,0 -2,0,0,0", "1,0,5,1 -2,0,0,0", "1,81,0,0 -2,0,0,0", "1,81,0,0 -2,0,0,0");
     House.sentence("T5: of what is RECLAIMED: of the file of which it was a COPY, if it still is");
     StubHouse a = onTwoTapes();
     a.reclaim(0);
@@ -672,6 +716,13 @@ public final class EdgesOfDrives {
       return x;
     };
     for (int t : new int[] {0, 1, 2}) House.refused("reclaim(" + t + ")", STATE, busy, x -> x.reclaim(t));
+    for (int t : new int[] {0, 1, 2}) {
+      House.refused("reclaim(" + t + ") when tape 0 is being so", STATE, () -> {
+        StubHouse x = onTwoTapes();
+        x.reclaim(0);
+        return x;
+      }, x -> x.reclaim(t));
+    }
     House.refused("BAD ahead of STATE", BAD, busy, x -> x.reclaim(6));
     House.sentence("22: LOST, ahead of STATE");
     for (int t : new int[] {0, 1, 6}) House.refused("reclaim(" + t + ")", LOST, House::lost, x -> x.reclaim(t));
@@ -736,6 +787,7 @@ public final class EdgesOfDrives {
     fits();
     secondCopy();
     noRoomAtTheEnd();
+    noCopyAnyMore();
     passedOver();
     leastNode();
     blanked();

@@ -132,6 +132,7 @@ public final class EdgesOfLog {
       House.due("none is not KEPT ahead of " + c.what, x.told(9), 0);
       c.act.accept(x);
       House.due(c.what, x.told(9) * 1000 + x.told(10), 1000 + c.bytes);
+      House.due("DELETES that wait behind " + c.what, x.told(8), c.what.equals("remove of a STUB") ? 1 : 0);
     }
     StubHouse x = new StubHouse();
     House.file(x, "a", 1024, 0);
@@ -155,10 +156,128 @@ public final class EdgesOfLog {
         House.due("what is there behind " + c.what + " and crash(" + n + ")", kept(x), happened ? is : was);
         House.due("it is KEPT", x.told(9) + x.told(10) + x.crash(0), 0);
         House.due("and stays", kept(x), happened ? is : was);
-        House.due("BLOCKS that are no file's are FREE", x.told(3) * 1000 + x.told(1) + x.told(2) + x.told(4) + x.told(5), 208);
+        dueBlocks("behind " + c.what + " and crash(" + n + ")", x);
         for (int f = 1; f < 4; f++) if (x.about(f, 0) == 2) House.due("TOUCH is TIME for all", x.about(f, 6), x.told(0));
       }
     }
+  }
+
+  /** All BLOCKS that are no file's are FREE, and no file's BLOCK is. */
+  private static void dueBlocks(String when, StubHouse x) {
+    int fast = 0;
+    int slow = 0;
+    for (int n = 0; n < 60; n++) {
+      fast += Math.max(0, x.about(n, 8));
+      slow += Math.max(0, x.about(n, 9));
+    }
+    House.due("of files in FAST " + when, x.told(1), fast);
+    House.due("of files in SLOW " + when, x.told(2), slow);
+    House.due("HELD " + when, x.told(3), 0);
+    House.due("FREE in FAST " + when, x.told(4), 48 - fast);
+    House.due("FREE in SLOW " + when, x.told(5), 160 - slow);
+  }
+
+  private static void blocksBehindACrash() {
+    House.sentence("T4: all BLOCKS that are no file's are FREE then, and files have theirs");
+    for (int n : new int[] {0, 12, 20, 36, Integer.MAX_VALUE}) {
+      StubHouse x = new StubHouse();
+      House.file(x, "a", 96, 0);
+      House.file(x, "b", 96, 100);
+      x.sync();
+      House.write(x, 1, 40, 1, 77);
+      x.cut(2, 1);
+      x.remove(2);
+      x.crash(n);
+      dueBlocks("behind crash(" + n + ")", x);
+      int left = x.told(4) + x.told(5);
+      House.fillUp(x, 3, left);
+      House.due("all are given out", x.told(4) + x.told(5), 0);
+      for (int p = 0; p < 96; p++) House.due("byte " + p + " of a behind crash(" + n + ")", x.read(1, p), n >= 20 && p == 40 ? 77 : p);
+      int size = n < 32 ? 96 : n < 38 ? 1 : 0;
+      for (int p = 0; p < size; p++) House.due("byte " + p + " of b behind crash(" + n + ")", x.read(2, p), 100 + p);
+    }
+  }
+
+  private static void blocksBehindALoss() {
+    House.sentence("T7: nothing of both stores is there: all BLOCKS are FREE when REBUILT");
+    StubHouse x = House.full();
+    x.cut(1, 5);
+    x.remove(7);
+    x.lose();
+    x.rebuild();
+    dueBlocks("when REBUILT", x);
+    House.due("of nothing", x.told(1) + x.told(2), 0);
+    x.crash(0);
+    dueBlocks("behind a crash", x);
+    House.due("of nothing", x.told(1) + x.told(2), 0);
+    House.fillUp(x, 1, 208);
+    House.due("all are given out", x.told(4) + x.told(5), 0);
+    House.sentence("T7: a STUB, whatever it was: in FAST");
+    StubHouse y = asked(stub(), 20);
+    House.due("in FAST", y.about(1, 8), 2);
+    y.lose();
+    y.rebuild();
+    House.due("a STUB", y.about(1, 10) * 100 + y.about(1, 8) * 10 + y.about(1, 9), 300);
+    House.due("without BLOCKS", y.block(1, 0), NONE);
+    dueBlocks("when REBUILT", y);
+    House.sentence("T7: a STUB, whatever it was: in SLOW");
+    StubHouse z = asked(stub(), 20);
+    z.marks(0, 0, 0);
+    z.step(2);
+    House.due("in SLOW", z.about(1, 9), 2);
+    z.lose();
+    z.rebuild();
+    House.due("a STUB", z.about(1, 10) * 100 + z.about(1, 8) * 10 + z.about(1, 9), 300);
+    dueBlocks("when REBUILT", z);
+    House.sentence("T7: no DELETE waits");
+    StubHouse w = removed(0);
+    House.due("one, none", w.told(8) * 10 + w.lose() + w.told(8), 10);
+    w.rebuild();
+    House.due("nor when REBUILT", w.told(8) * 10 + w.told(18), 2);
+  }
+
+  /** a (1) has its COPIES on tape 0 at 49 and on tape 1 at 8. */
+  private static StubHouse unlikePlaces() {
+    StubHouse x = House.sinking();
+    House.file(x, "z", 8, 0);
+    x.step(40);
+    x.copies(2);
+    House.file(x, "a", 40, 100);
+    x.step(60);
+    x.copies(1);
+    x.sync();
+    x.crash(0);
+    House.calm(x);
+    House.due("tapes", x.copy(2, 0, 0) * 10 + x.copy(2, 1, 0), 1);
+    House.due("places", x.copy(2, 0, 1) * 100 + x.copy(2, 1, 1), 4908);
+    return x;
+  }
+
+  private static void copiesBehindACrash() {
+    House.sentence("T4: a COPY put elsewhere that has not happened is where it was");
+    StubHouse x = unlikePlaces();
+    x.reclaim(0);
+    House.stepsUntil(x, y -> y.copy(2, 0, 0) != 0);
+    House.due("elsewhere", x.copy(2, 0, 0) * 100 + x.copy(2, 0, 1), 208);
+    House.due("two RECORDS", x.told(9) * 100 + x.told(10), 224);
+    x.crash(23);
+    House.due("where it was", x.copy(2, 0, 0) * 100 + x.copy(2, 0, 1), 49);
+    House.due("the other one's is elsewhere", x.copy(1, 0, 0) * 100 + x.copy(1, 0, 1), 181);
+    House.sentence("T4, T5: a COPY taken away: the other one is the first then, with its place");
+    StubHouse y = unlikePlaces();
+    y.spoil(0, 49 + 29, 1);
+    y.read(2, 0);
+    House.stepsUntil(y, z -> z.about(2, 7) == 1);
+    House.due("tape 1 at 8", y.copy(2, 0, 0) * 100 + y.copy(2, 0, 1), 108);
+    House.due("none behind it", y.copy(2, 1, 1), NONE);
+    y.crash(11);
+    House.due("back again", y.copy(2, 0, 0) * 1000000 + y.copy(2, 0, 1) * 10000 + y.copy(2, 1, 0) * 100 + y.copy(2, 1, 1), 490108);
+    House.sentence("T5: BLANKED: all COPIES that files have there go, also second ones");
+    StubHouse w = unlikePlaces();
+    w.spoil(1, 8 + 29, 1);
+    w.reclaim(1);
+    House.stepsUntil(w, z -> z.told(13) == NONE);
+    House.due("the first one stays", w.about(2, 7) * 1000 + w.copy(2, 0, 0) * 100 + w.copy(2, 0, 1), 1049);
   }
 
   private static void crashBetween() {
@@ -220,6 +339,27 @@ public final class EdgesOfLog {
     House.due("none", y.told(6) * 10 + y.told(13), NONE);
     y.step(50);
     House.due("nothing goes on", y.drive(1, 0) * 10 + y.tape(0, 2), -19);
+    House.sentence("T4, T7: what was read by RECLAIMING waits no more");
+    for (int steps = 0; steps < 12; steps++) {
+      StubHouse s = reclaimed(stub(), steps);
+      s.crash(Integer.MAX_VALUE);
+      s.step(50);
+      House.due("crash at " + steps + ": tapes are as they were", s.tape(0, 0) * 1000 + s.tape(1, 0), 81000);
+      House.due("crash at " + steps + ": no ACT, no tape", House.drives(s), "-2,0,0,0 -2,0,0,0");
+      StubHouse l = reclaimed(stub(), steps);
+      l.lose();
+      l.step(5);
+      l.rebuild();
+      l.step(50);
+      House.due("lose at " + steps + ": tapes are as they were", l.tape(0, 0) * 1000 + l.tape(1, 0), 81000);
+      House.due("lose at " + steps + ": no ACT, no tape", House.drives(l), "-2,0,0,0 -2,0,0,0");
+    }
+    House.sentence("T4: a tape can be RECLAIMED anew behind a crash");
+    StubHouse z = reclaimed(stub(), 8);
+    z.crash(0);
+    House.due("reclaim(0)", z.reclaim(0), 0);
+    House.stepsUntil(z, w -> w.told(13) == NONE);
+    House.due("once on tape 1", z.tape(0, 0) * 100 + z.tape(1, 2) * 10 + z.copy(1, 0, 0), 11);
   }
 
   private static void syncs() {
@@ -441,6 +581,16 @@ public final class EdgesOfLog {
     x.move(2, 0, 'q');
     x.step(1);
     House.due("begun behind the SYNC of itself", x.told(8) * 10 + x.tape(0, 2), 2);
+    House.sentence("T4: the lesser ID is KEPT and written, the greater one is not KEPT");
+    StubHouse z = House.sinking();
+    House.file(z, "a", 1, 0);
+    House.file(z, "b", 1, 0);
+    z.step(60);
+    z.remove(1);
+    z.sync();
+    z.remove(2);
+    z.step(30);
+    House.due("only that one is written", z.told(8) * 100 + z.tape(0, 2) * 10 + z.segment(0, 2, 2), 131);
     House.sentence("T4: the greater ID may be KEPT ahead of the lesser one");
     StubHouse y = House.sinking();
     House.file(y, "a", 1, 0);
@@ -516,6 +666,11 @@ public final class EdgesOfLog {
     House.due("files", x.rebuild(), 58);
     House.due("node 59 is its directory, without nodes", x.name(59) * 10 + x.about(59, 0), 'p' * 10 + 1);
     House.due("which can be removed", x.remove(59), 0);
+    parts[60] = House.fileSegment(90, 5, 202, 0, 'm', 'n', 'o');
+    House.forge(x, 0, parts);
+    x.lose();
+    House.due("when there are 60 no directory is made", x.rebuild() * 100 + x.told(18), 5860);
+    House.due("not m", x.find(0, 'm'), NONE);
     parts[57] = House.fileSegment(68, 5, 201, 0, 'p', 'r');
     House.forge(x, 0, parts);
     x.lose();
@@ -534,6 +689,11 @@ public final class EdgesOfLog {
       House.due("p, p/q, r, t", x.find(0, 'p') * 1000 + x.find(1, 'q') * 100 + x.find(0, 'r') * 10 + x.find(0, 't'), 1234);
       House.due("nodes", x.told(18), 5);
     }
+    House.sentence("T7: nothing is made behind a NAME that is none");
+    StubHouse w = House.twoTapes(1);
+    House.forge(w, 0, House.fileSegment(1, 1, 1, 1, 'p', 'Q', 'r', 's', 't'), House.fileSegment(2, 2, 2, 1, 'Q', 'u', 'v'));
+    w.lose();
+    House.due("no file, the root and p", w.rebuild() * 100 + w.told(18) * 10 + w.find(0, 'p'), 21);
     House.sentence("T7: at the greatest DEPTH");
     StubHouse x = House.twoTapes(1);
     House.forge(x, 0, House.fileSegment(1, 1, 1, 1, 'a', 'b', 'c', 'd', 'e'));
@@ -569,6 +729,10 @@ public final class EdgesOfLog {
     x.lose();
     x.rebuild();
     House.due("of SIZE 0, too", x.about(1, 10) * 100 + x.about(1, 7) * 10 + x.copy(1, 0, 0), 10);
+    House.forge(x, 1, House.segment(2, 7, 7, 69, 0, 0));
+    x.lose();
+    x.rebuild();
+    House.due("but no DELETE", x.about(1, 3) * 10 + x.about(1, 7), 71);
   }
 
   private static void rebuiltNumbers() {
@@ -612,11 +776,26 @@ public final class EdgesOfLog {
     House.due("STAMP", x.told(17), most + 1);
     House.due("VERSION", x.told(19), most + 1);
     House.due("they go on", x.make(0, 'b', false) * 100000000L + x.about(2, 3), 200000000L + most + 1);
+    House.write(x, 2, 0, 5, 0);
+    x.marks(0, 0, 0);
+    x.marks(1, 0, 0);
+    x.step(40);
+    House.due("its SEGMENT is on tape 0, not FOUND: its numbers are above", x.copy(2, 0, 0) * 100000 + x.copy(2, 0, 1) * 10 + x.tape(0, 2), 10650);
+    int[] want = House.fileSegment(most + 1, most + 2, most + 1, 5, 'b');
+    for (int i = 0; i < 15; i++) House.due("byte " + i, x.byteOf(0, 1065 + i), want[i]);
+    House.calm(x);
+    x.read(2, 0);
+    x.step(40);
+    House.due("none FITS there", x.about(2, 10), 4);
+    House.due("no DELETE waits for it", x.remove(2) * 10 + x.told(8), 0);
   }
 
   public static void main(String[] args) {
     lengths();
     crashes();
+    blocksBehindACrash();
+    blocksBehindALoss();
+    copiesBehindACrash();
     crashBetween();
     crashRefused();
     crashStops();

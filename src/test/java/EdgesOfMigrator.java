@@ -28,6 +28,17 @@ public final class EdgesOfMigrator {
     House.due("4", firstThatSinks(two(2, 1, 1, 4)), 10);
     House.due("3", firstThatSinks(two(2, 1, 1, 3)), 10);
     House.due("like ones", firstThatSinks(two(3, 3, 1, 0)), 10);
+    House.sentence("T6: RANK: the greatest first, of many");
+    int[][] rows = {{1, 2, 3, 4, 5}, {5, 4, 3, 2, 1}, {2, 5, 1, 4, 3}, {3, 1, 5, 3, 1}, {1, 1, 2, 2, 1}};
+    String[] due = {"54321", "12345", "24513", "31425", "34125"};
+    for (int i = 0; i < rows.length; i++) {
+      StubHouse m = House.sinking();
+      for (int f = 0; f < 5; f++) House.file(m, "f" + f, 32 * rows[i][f], 0);
+      m.step(200);
+      StringBuilder got = new StringBuilder();
+      for (int k = 0; k < 5; k++) got.append(m.segment(0, k, 2));
+      House.due("files are written, row " + i, got.toString(), due[i]);
+    }
     House.sentence("T6: RANK: all BLOCKS count, where ever they are");
     StubHouse x = two(3, 3, 1, 0);
     x.marks(0, 0, 0);
@@ -129,6 +140,25 @@ public final class EdgesOfMigrator {
     House.stepsUntil(z, y -> y.about(1, 10) == 3);
     z.step(1);
     House.due("two are left, LOW is 1", z.told(2) * 10 + z.told(12), 21);
+  }
+
+  private static void slowLow() {
+    House.sentence("T6: SLOW MODE is off when no more than LOW (100 at first)");
+    for (int left = 100; left <= 101; left++) {
+      StubHouse x = new StubHouse();
+      x.marks(0, 48, 48);
+      House.fillUp(x, 1, 48);
+      int[] blocks = {32, 109 - left, 32, 32, 32, left - 97};
+      for (int f = 0; f < 6; f++) House.file(x, "f" + f, 32 * blocks[f], 0);
+      House.due("in SLOW", x.told(2), 140);
+      x.step(100);
+      for (int f = 5; f <= 8; f++) x.read(f, 0);
+      House.write(x, 8, 32 * blocks[5], 32, 0);
+      x.sync();
+      x.step(200);
+      // 141, less 32, less 9 or 8; at 101 one more of 32 goes.
+      House.due("what is left of 141", x.told(2) * 10 + x.told(12), left == 100 ? 1000 : 690);
+    }
   }
 
   private static void oneThing() {
@@ -307,6 +337,7 @@ public final class EdgesOfMigrator {
     ranks();
     fastMode();
     slowMode();
+    slowLow();
     oneThing();
     noneFreeInSlow();
     firstBlock();

@@ -58,6 +58,27 @@ public final class EdgesOfTapes {
     }
   }
 
+  private static void greatest() {
+    House.sentence("T3: the greatest SEGMENT: five NAMES and 1,024 bytes");
+    StubHouse x = House.deep();
+    x.remove(5);
+    x.make(4, House.name("zyxw9876"), false);
+    House.write(x, 5, 0, 1024, 3);
+    x.marks(0, 0, 0);
+    x.marks(1, 0, 0);
+    x.step(100);
+    House.due("bytes", x.tape(0, 0), 8 + 1089);
+    House.due("GOOD, SIZE", x.segment(0, 0, 7) * 10000 + x.segment(0, 0, 6), 11024);
+    x.reclaim(0);
+    House.stepsUntil(x, y -> y.told(13) == NONE);
+    House.due("a copy by RECLAIMING", x.tape(1, 0) * 10 + x.segment(1, 0, 7), (8 + 1089) * 10 + 1);
+    House.calm(x);
+    x.sync();
+    x.read(5, 0);
+    x.step(60);
+    for (int p = 0; p < 1024; p++) House.due("byte " + p, x.read(5, p), (3 + p) & 255);
+  }
+
   private static void allFull() {
     House.sentence("T5: the first for which there is a tape: nothing is done, if there is none");
     StubHouse x = House.sinking();
@@ -79,6 +100,23 @@ public final class EdgesOfTapes {
     x.step(200);
     House.due("what was read waits", x.told(13) * 10 + x.drive(1, 2), 0);
     House.due("the tape is as it was", x.tape(0, 0), 6000);
+    House.sentence("T5: the first for which there is a tape: a file, if what is RECLAIMED has none");
+    StubHouse w = House.sinking();
+    for (int f = 1; f <= 36; f++) {
+      House.file(w, "f" + f, f == 36 ? 624 : f % 6 == 0 ? 674 : 1024, 0);
+      w.step(100);
+      w.sync();
+    }
+    House.due("50 bytes are left on tape 5", w.tape(5, 0), 5950);
+    w.reclaim(0);
+    w.step(60);
+    House.due("what was read waits", w.drive(1, 0) * 100 + w.drive(1, 2) * 10 + w.drive(0, 2), 0);
+    House.file(w, "q", 18, 0);
+    w.step(60);
+    House.due("51 bytes: it waits, too", w.told(7) * 10000 + w.tape(5, 0), 15950);
+    w.cut(37, 17);
+    w.step(60);
+    House.due("50 bytes: it is written", w.told(7) * 10000 + w.tape(5, 0), 6000);
     House.sentence("T5: the first for which there is a tape: a later one, if the first one has none");
     StubHouse y = House.sinking();
     for (int f = 1; f <= 30; f++) {
@@ -344,6 +382,47 @@ public final class EdgesOfTapes {
     House.due("the next tape", x.view(0, 1) * 1000 + x.view(0, 2) * 10 + x.view(0, 4), 1082);
   }
 
+  private static void viewGoesAlong() {
+    House.sentence("T3: THE VIEW is what the tapes tell now: when a SEGMENT is written, spoiled, when a tape is BLANKED");
+    StubHouse x = House.sinkingFile();
+    dueView("nothing", x);
+    x.step(8);
+    dueView("a SEGMENT is written", x, 1);
+    x.spoil(0, 8 + 29, 1);
+    dueView("spoiled", x);
+    x.spoil(0, 8 + 29, 1);
+    dueView("turned back", x, 1);
+    x.reclaim(0);
+    House.stepsUntil(x, y -> y.tape(1, 0) > 0);
+    House.due("of like STAMPS the one on tape 0", x.view(0, 1), 0);
+    House.stepsUntil(x, y -> y.told(13) == NONE);
+    House.due("tape 0 is BLANKED", x.view(0, 1), 1);
+    x.spoil(1, 8 + 29, 1);
+    x.reclaim(1);
+    dueView("spoiled", x);
+    x.spoil(1, 8 + 29, 1);
+    dueView("turned back", x, 1);
+    x.spoil(1, 8 + 29, 1);
+    House.stepsUntil(x, y -> y.told(13) == NONE);
+    dueView("tape 1 is BLANKED", x);
+    House.sentence("T3: what tells of bytes behind the end is FOUND when they are there");
+    for (int size = 100; size <= 101; size++) {
+      int[] s = House.fileSegment(50, 60, 70, size, 'q');
+      StubHouse z = House.twoTapes(1);
+      for (int i = 0; i < 60; i++) House.turn(z, 0, 1065 - 60 + i, s[i]);
+      House.due("not yet", z.tape(0, 2), 0);
+      z.marks(0, 0, 0);
+      z.marks(1, 0, 0);
+      House.file(z, "a", 40, 0);
+      z.step(40);
+      House.due("73 bytes later, SIZE " + size, z.tape(0, 2) * 10000 + z.segment(0, 0, 0), 10000 + (size == 100 ? 1005 : 1065));
+      House.file(z, "b", 40, 0);
+      z.step(40);
+      House.due("146 bytes later, SIZE " + size, z.tape(0, 2) * 10000 + z.segment(0, 0, 0), (size == 100 ? 20000 : 10000) + 1005);
+      House.due("what comes behind it", z.segment(0, 1, 0), size == 100 ? 1065 + 73 : NONE);
+    }
+  }
+
   private static void viewPaths() {
     StubHouse x = House.twoTapes(1);
     House.sentence("T3: THE VIEW: they are taken by falling STAMPS: one is left out whose path is that of another one that is there");
@@ -367,6 +446,12 @@ public final class EdgesOfTapes {
     House.forge(x, 0, House.fileSegment(5, 1, 11, 1, 'a'), House.fileSegment(6, 2, 10, 1, House.name("ab")), House.fileSegment(7, 2, 9, 1, 'b', 'a'), House.fileSegment(8, 2, 8, 1, 'c', 'a'),
         House.fileSegment(9, 2, 7, 1, 'c', 'b'), House.fileSegment(4, 2, 6, 1, 'd', 'e', 'f', 'g', 'h'), House.fileSegment(3, 2, 5, 1, 'd', 'e', 'f', 'g', 'i'));
     dueView("by rising IDs", x, 3, 4, 5, 6, 7, 8, 9);
+    House.sentence("29: by rising IDs, where ever they are");
+    House.forge(x, 0, House.fileSegment(9, 1, 11, 1, 'a'), House.fileSegment(5, 2, 10, 2, 'b'), House.fileSegment(6, 3, 9, 3, 'c'));
+    House.forge(x, 1, House.fileSegment(7, 4, 12, 4, 'd'), House.fileSegment(3, 5, 8, 5, 'e'), House.fileSegment(8, 6, 7, 6, 'f'));
+    dueView("on two tapes", x, 3, 5, 6, 7, 8, 9);
+    int[][] want = {{3, 1, 45, 5, 5}, {5, 0, 42, 2, 2}, {6, 0, 77, 3, 3}, {7, 1, 8, 4, 4}, {8, 1, 83, 6, 6}, {9, 0, 8, 1, 1}};
+    for (int i = 0; i < want.length; i++) for (int k = 0; k < 5; k++) House.due("view(" + i + ", " + k + ")", x.view(i, k), want[i][k]);
   }
 
   private static void live() {
@@ -445,6 +530,13 @@ public final class EdgesOfTapes {
     House.due("nor if it does not FIT", liveOn(y, 0), "01");
     y.lose();
     House.due("nor when both stores are LOST", liveOn(y, 0), "01");
+    StubHouse z = House.twoTapes(1);
+    House.forge(z, 0, copy, House.fileSegment(9, 1, 4, 1, 'a'), later);
+    z.spoil(0, 8 + 34 + 34, 1);
+    z.lose();
+    z.rebuild();
+    z.spoil(0, 8 + 34 + 34, 1);
+    House.due("nor if its place is none, though it FITS", liveOn(z, 0), "101");
   }
 
   private static void tapeRefused() {
@@ -540,6 +632,7 @@ public final class EdgesOfTapes {
 
   public static void main(String[] args) {
     sixThousand();
+    greatest();
     allFull();
     generations();
     labels();
@@ -550,6 +643,7 @@ public final class EdgesOfTapes {
     foundPlaces();
     most();
     views();
+    viewGoesAlong();
     viewPaths();
     live();
     liveCopies();

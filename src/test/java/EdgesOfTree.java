@@ -243,6 +243,35 @@ public final class EdgesOfTree {
     House.due("it is there", x.find(0, 'g'), 7);
   }
 
+  private static void moved() {
+    House.sentence("5: a node gets another OVER and NAME (also the same)");
+    StubHouse x = some();
+    House.due("another NAME", x.move(6, 4, 'g') * 100000 + x.find(4, 'g') * 1000 + x.name(6), 6000 + 'g');
+    House.due("not the one that it had", x.find(4, 'f'), NONE);
+    House.due("another OVER", x.move(6, 0, 'g') * 100 + x.about(6, 1) * 10 + x.find(0, 'g'), 6);
+    House.due("not the one that it had", x.find(4, 'g'), NONE);
+    House.due("what is below goes along", x.move(3, 0, 'h') * 10 + x.about(4, 1) + x.about(5, 2), 6);
+    House.due("the one that it had is to be had again", x.make(2, 'c', false), 7);
+  }
+
+  private static void lesserBelowGreater() {
+    House.sentence("4, 5: nodes of any numbers, directories and files alike, are below others");
+    StubHouse x = new StubHouse();
+    x.make(0, 'a', true);
+    x.make(0, 'b', true);
+    x.move(1, 2, 'a');
+    House.due("1 is in 2: STATE", x.remove(2), STATE);
+    House.due("2 into 1: STATE", x.move(2, 1, 'q'), STATE);
+    for (int i = 0; i < 4; i++) x.make(i == 0 ? 0 : 2 + i, 'm' + i, true);
+    House.due("2 with a directory below it to DEPTH 5: ROOM", x.about(6, 2) * 100 + x.move(2, 6, 'q'), 400 + ROOM);
+    House.due("to DEPTH 4", x.move(2, 5, 'q') * 10 + x.about(1, 2), 5);
+    x.remove(1);
+    x.make(2, 'f', false);
+    House.due("with a file below it to DEPTH 5: ROOM", x.move(2, 6, 'q'), ROOM);
+    x.remove(1);
+    House.due("with none below it", x.move(2, 6, 'q') * 10 + x.about(2, 2), 5);
+  }
+
   private static void moveState() {
     House.sentence("5: STATE: it would be in itself, or below");
     House.refused("in itself", STATE, EdgesOfTree::some, x -> x.move(3, 3, 'q'));
@@ -383,6 +412,8 @@ public final class EdgesOfTree {
     remove();
     moveBad();
     moveTaken();
+    moved();
+    lesserBelowGreater();
     moveState();
     moveRoom();
     moveInOrder();

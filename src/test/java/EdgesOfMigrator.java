@@ -193,6 +193,24 @@ public final class EdgesOfMigrator {
     House.due("then the second one", y.about(1, 10) * 10 + y.about(2, 10), 33);
   }
 
+  private static void releasedIsOneThing() {
+    House.sentence("T6: at most one thing a STEP: what is RELEASED, and what comes to wait");
+    StubHouse x = House.sinkingFile();
+    x.step(8);
+    House.calm(x);
+    x.read(1, 0);
+    House.stepsUntil(x, y -> y.about(1, 10) == 2);
+    House.file(x, "b", 96, 0);
+    x.marks(0, 0, 0);
+    x.step(5);
+    House.due("both are in SLOW, none waits", x.told(2) * 10 + x.told(7), 50);
+    x.marks(1, 0, 0);
+    x.step(1);
+    House.due("one is RELEASED, none waits", x.about(1, 10) * 10 + x.told(7), 30);
+    x.step(1);
+    House.due("one waits", x.told(7), 1);
+  }
+
   private static void noneFreeInSlow() {
     House.sentence("T6: in FAST MODE, if a BLOCK of SLOW is FREE; otherwise, in SLOW MODE");
     StubHouse x = House.full();
@@ -339,6 +357,7 @@ public final class EdgesOfMigrator {
     slowMode();
     slowLow();
     oneThing();
+    releasedIsOneThing();
     noneFreeInSlow();
     firstBlock();
     released();

@@ -111,6 +111,13 @@ public final class EdgesOfTapes {
     w.reclaim(0);
     w.step(60);
     House.due("what was read waits", w.drive(1, 0) * 100 + w.drive(1, 2) * 10 + w.drive(0, 2), 0);
+    House.sentence("T5 (c): none is wanted, and the READER has no tape: no ACT, though one is being RECLAIMED");
+    w.read(7, 0);
+    House.stepsUntil(w, y -> y.told(6) == 0);
+    House.due("RECALLED from tape 1", w.drive(1, 0) * 10 + w.about(7, 10), 12);
+    w.step(2);
+    for (int i = 0; i < 3; i++) House.due("no tape, no ACT", w.step(1) * 1000 + w.drive(1, 0) * 10 + w.drive(1, 2), -20);
+    House.sentence("T5: the first for which there is a tape: a file, if what is RECLAIMED has none");
     House.file(w, "q", 18, 0);
     w.step(60);
     House.due("51 bytes: it waits, too", w.told(7) * 10000 + w.tape(5, 0), 15950);

@@ -381,6 +381,15 @@ public final class EdgesOfTree {
     House.due("in stores with its COPY", s.about(1, 10), 2);
     s.copies(2);
     House.due("with one of two", s.about(1, 10), 1);
+    StubHouse two = House.sinkingFile();
+    two.copies(2);
+    two.step(60);
+    House.calm(two);
+    two.read(1, 0);
+    two.step(20);
+    House.due("with two of two", two.about(1, 7) * 10 + two.about(1, 10), 22);
+    two.copies(1);
+    House.due("with more than are to be", two.about(1, 7) * 10 + two.about(1, 10), 22);
     House.due("DAMAGED", House.damaged().about(1, 10), 4);
   }
 

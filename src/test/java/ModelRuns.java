@@ -850,12 +850,68 @@ public final class ModelRuns {
     {14, 4, 6, 40, 2, 6, 6, 0, 1, 0, 0, 0, 1, 6, 0, 0, 1},
   };
 
+  static void makeFile(StubHouse x, Model m, int over, String name, int size) {
+    long number = 0;
+    for (int i = name.length() - 1; i >= 0; i--) number = number << 8 | name.charAt(i);
+    int n = m.make(over, number, false);
+    due("make(" + over + ", " + number + ", false)", x.make(over, number, false), n);
+    for (int at = 0; at < size; at += 256) {
+      int count = Math.min(256, size - at);
+      due("fill(" + count + ", " + at + ")", x.fill(count, at), m.fill(count, at));
+      due("write(" + n + ", " + at + ")", x.write(n, at), m.write(n, at));
+    }
+  }
+
+  static void step(StubHouse x, Model m, int n) { due("step(" + n + ")", x.step(n), m.step(n)); }
+  static void sync(StubHouse x, Model m) { due("sync()", x.sync(), m.sync()); }
+  static void marks(StubHouse x, Model m, int store, int high, int low) {
+    due("marks(" + store + ", " + high + ", " + low + ")", x.marks(store, high, low), m.marks(store, high, low));
+  }
+
+  /** Runs begin at a new object, or where one of the document's limits is near. */
+  static void start(StubHouse x, Model m, int kind) {
+    switch (kind) {
+      case 1: // all BLOCKS are of files
+        for (int f = 0; f < 7; f++) {
+          makeFile(x, m, 0, "f" + f, f < 6 ? 1024 : 500);
+          sync(x, m);
+        }
+        break;
+      case 2: // 60 nodes, but for two
+        for (int f = 0; f < 57; f++) makeFile(x, m, 0, "f" + f, f % 3);
+        break;
+      case 3: // 45 files on tape, so that more than 40 DELETES can come to wait
+        marks(x, m, 0, 0, 0);
+        marks(x, m, 1, 0, 0);
+        for (int f = 0; f < 45; f++) makeFile(x, m, 0, "f" + f, 1);
+        step(x, m, 400);
+        sync(x, m);
+        for (int n = 1; n <= 38; n++) due("remove(" + n + ")", x.remove(n), m.remove(n));
+        break;
+      case 4: // a tape is almost full
+        marks(x, m, 0, 0, 0);
+        marks(x, m, 1, 0, 0);
+        for (int f = 0; f < 6; f++) {
+          makeFile(x, m, 0, "f" + f, f < 5 ? 1024 : 560);
+          step(x, m, 90);
+          sync(x, m);
+        }
+        break;
+      case 5: // 195 RECORDS are not KEPT
+        makeFile(x, m, 0, "f", 40);
+        for (int i = 2; i < 195; i++) due("move(1, 0, 102)", x.move(1, 0, 102), m.move(1, 0, 102));
+        break;
+      default:
+    }
+  }
+
   static void run(int seed) {
     Random r = new Random(seed);
     StubHouse x = new StubHouse();
     Model m = new Model();
     calls = new ArrayList<>();
     int[] profile = PROFILES[seed % PROFILES.length];
+    start(x, m, seed / PROFILES.length % 12 - 6);
     if (r.nextInt(4) > 0) due("marks(0, 6, 2)", x.marks(0, 6, 2), m.marks(0, 6, 2));
     if (r.nextInt(4) > 0) due("marks(1, 10, 3)", x.marks(1, 10, 3), m.marks(1, 10, 3));
     for (int i = 0; i < 380 && wrong == 0; i++) {
@@ -877,7 +933,7 @@ public final class ModelRuns {
   }
 
   public static void main(String[] args) {
-    int runs = args.length > 0 ? Integer.parseInt(args[0]) : 84;
+    int runs = args.length > 0 ? Integer.parseInt(args[0]) : 168;
     for (int seed = 0; seed < runs && wrong == 0; seed++) run(seed);
     System.out.println(compared + " answers compared; blanked " + seen[0] + ", bytes " + seen[1] + ", stamps " + seen[2] + ", damaged " + seen[3] + ", stubs " + seen[4]);
     if (wrong > 0) System.exit(1);
